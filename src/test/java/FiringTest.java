@@ -95,6 +95,13 @@ public final class FiringTest {
         fill(four, 7, 4);
         four.run("enabledRules() = 3; fireRule(0) = 1; queueLength(4) = 8; enabledRules() = 2; fireRule(1) = 1;"
             + "queueLength(7) = 8; enabledRules() = 0; queueLength(4) = 7");
+        for (int c = 0; c < 8; c++) {
+            char other = c == 4 ? 'f' : 'e';
+            Script each = new Script("15 room in channel " + c).run("rule " + other + ":" + (char) ('a' + c) + "=1 = 0");
+            fill(each, other - 'a', 2);
+            fill(each, c, 7);
+            each.run("enabledRules() = 1; fire() = 0; queueLength(" + c + ") = 8; enabledRules() = 0; readyRules() = 1");
+        }
     }
 
     private static void matchOf() {

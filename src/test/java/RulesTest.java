@@ -140,6 +140,9 @@ public final class RulesTest {
         new Script("6 the removed rule's body goes").run("rule e:f=1 = 0; rule e:f=2 = 1; rule e:f=3 = 2;"
             + "removeRule(0) = 2; send(4, 0) = -1; fire() = 0; messageAt(5, 0) = 2; rule e:f=4 = 2; send(4, 0) = -1;"
             + "fireRule(2) = 1; messageAt(5, 1) = 4; send(4, 0) = -1; fireRule(1) = 1; messageAt(5, 2) = 3");
+        new Script("6 a text read later leaves the rules alone").run("rule e:f=1 = 0; rule e:f=2 = 1; removeRule(0) = 1;"
+            + "rule e:f=3 = 1; text g:h=9 = 5; firstError() = 5; patternOf(0) = 16; send(4, 0) = -1; fire() = 0;"
+            + "messageAt(5, 0) = 2; send(4, 0) = -1; fireRule(1) = 1; messageAt(5, 1) = 3");
     }
 
     /** Four rules that are always enabled, the rotation policy, and rule 'last' fired last. */

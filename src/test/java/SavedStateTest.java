@@ -3,6 +3,7 @@ public final class SavedStateTest {
     public static void main(String[] args) {
         saveAndRestore();
         everythingThatIsSaved();
+        repliesAreSaved();
         whatIsNotSaved();
         digest();
         digestOfTickets();
@@ -36,6 +37,17 @@ public final class SavedStateTest {
             + "fire() = 2; meanWait(4) = 2.0");
         new Script("29 no rule has been fired yet").run("rule e:e=e = 0; rule e:e=e = 1; setPolicy(1) = 0; send(4, 0) = -1;"
             + "save() = 1; fire() = 0; nextRule() = 1; restore() = 1; nextRule() = 0");
+    }
+
+    /** The new tickets take the places of the old ones, which restore must give back. */
+    private static void repliesAreSaved() {
+        Script s = new Script("29, 30 replies").run("rule a:!a=a = 0; rule b: = 1; send(0, 11) = 0; send(1, 12) = 1;"
+            + "send(2, 0) = 2; run(9) = 2; save() = 1");
+        for (int t = 3; t < 30; t++) {
+            s.run("send(0, " + (100 + t) + ") = " + t + "; fire() = 0");
+        }
+        s.run("replyOf(0) = throws IndexOutOfBoundsException; replyOf(24) = 124; restore() = 1; replyOf(0) = 11;"
+            + "ticketState(1) = 2; ticketState(2) = 0; ticketState(3) = throws IndexOutOfBoundsException");
     }
 
     private static void whatIsNotSaved() {
