@@ -37,6 +37,14 @@ final class Script {
         return this;
     }
 
+    /** Runs the calls once for each number; the sign # stands for the number. */
+    Script each(int first, int last, String calls) {
+        for (int i = first; i <= last; i++) {
+            run(calls.replace("#", String.valueOf(i)));
+        }
+        return this;
+    }
+
     private void check(String call, String due) {
         made++;
         long before = runtime.digest();
