@@ -20,55 +20,43 @@ final class DescriptionEdges {
         examples(edges);
     }
 
-    private static void due(String title, String what, Object got, Object want) {
-        Script.report(title + ": " + what, String.valueOf(got), String.valueOf(want));
-    }
-
-    /** Adds a rule; answers how many calls that took. */
-    private static int write(JoinRuntime runtime, String text) {
-        for (char c : text.toCharArray()) {
-            runtime.append(c);
-        }
-        runtime.addRule();
-        return text.length() + 1;
-    }
-
-    /** This test and the next one count the calls, because a Script asks for the digest between them. */
+    /** This test and the next one count the calls, because run asks for the digest between them. */
     private static void manyTickets(Edges edges) {
-        String title = edges.sentence(0, "An object is used for at most 512 calls");
-        JoinRuntime x = new JoinRuntime();
-        int calls = write(x, "a:!a=a");
+        Script s = edges.of(0, "An object is used for at most 512 calls");
+        String rule = "a:!a=a";
+        s.due("addRule()", s.ask("rule " + rule), 0);
+        int calls = rule.length() + 1;
         int given = 0;
         while (calls < 511) {
-            due(title, "send", x.send(0, given), given);
-            due(title, "fire", x.fire(), 0);
+            s.due("send", s.ask("send(0, " + given + ")"), given);
+            s.due("fire()", s.ask("fire()"), 0);
             given++;
             calls += 2;
         }
-        due(title, "call " + (calls + 1), x.replyOf(given - 24), given - 24);
-        due(title, "the calls", calls + 1, 512);
+        s.due("the last call", s.ask("replyOf(" + (given - 24) + ")"), given - 24);
+        s.due("the number of calls", calls + 1, 512);
     }
 
     private static void manyFirings(Edges edges) {
-        String title = edges.sentence(0, "An object is used for at most 512 calls");
-        JoinRuntime x = new JoinRuntime();
-        int calls = write(x, "e:e=e+1") + write(x, "f:");
-        x.send(5, 0);
-        x.send(4, 0);
-        calls += 2;
+        Script s = edges.of(0, "An object is used for at most 512 calls");
+        s.ask("rule e:e=e+1");
+        s.ask("rule f:");
+        s.ask("send(5, 0)");
+        s.ask("send(4, 0)");
+        int calls = 13;
         int fired = 0;
         while (calls < 506) {
-            due(title, "run", x.run(100), 100);
+            s.due("run(100)", s.ask("run(100)"), 100);
             fired += 100;
             calls++;
         }
-        due(title, "fireRule", x.fireRule(1), 1);
-        due(title, "clock", x.clock(), fired + 3);
-        due(title, "firings", x.firings(0), fired);
-        due(title, "consumed", x.consumed(4), fired);
-        due(title, "the longest wait", x.meanWait(5), (double) (fired + 2));
-        due(title, "call " + (calls + 6), x.messageAt(4, 0), 9999);
-        due(title, "the calls", calls + 6, 512);
+        s.due("fireRule(1)", s.ask("fireRule(1)"), 1);
+        s.due("clock()", s.ask("clock()"), fired + 3);
+        s.due("firings(0)", s.ask("firings(0)"), fired);
+        s.due("consumed(4)", s.ask("consumed(4)"), fired);
+        s.due("the longest wait", s.ask("meanWait(5)"), (double) (fired + 2));
+        s.due("the last call", s.ask("messageAt(4, 0)"), 9999);
+        s.due("the number of calls", calls + 6, 512);
     }
 
     private static void channels(Edges edges) {
@@ -99,7 +87,7 @@ final class DescriptionEdges {
             + "send(0, -10000) = " + ARGUMENT + "; send(4, 10000) = " + ARGUMENT + "; messageAt(0, 0) = -9999;"
             + "messageAt(4, 0) = 9999");
         // The time stamps are 1 and 2; the first message has ticket 0, the second one has none.
-        due("A message", "digest", values.runtime().digest(), Script.hash(0,
+        values.due("digest()", values.ask("digest()"), Script.hash(0,
             1, -9999, 1, 0, 0, 0, 0, 1, 9999, 2, -1, 0, 0, 0,
             0, 0, 0, 0, 0, 0, 0, 0, 0, 0, 0, 0, 0, 0, 0, 0,
             1, 0, 2, 0, 0, 0, -1, 0, 0));
@@ -191,6 +179,6 @@ final class DescriptionEdges {
         }
         Script none = edges.of(0, "- `NONE = -1`").run("send(4, 0) = -1; nextRule() = -1; fire() = -1; rule a: = 0;"
             + "matchOf(0, 0) = -1");
-        due("NONE", "the constant", JoinRuntime.NONE, none.runtime().nextRule());
+        none.due("the constant", JoinRuntime.NONE, -1);
     }
 }

@@ -90,7 +90,7 @@ final class FiringPromiseEdges {
             Script s = edges.of(17, fires).run("rule e:e=e,f=1 = 0; rule e:e=e,g=1 = 1; rule f: = 2; rule e: = 3; setPolicy("
                 + policy + ") = 0; send(4, 0) = -1");
             for (int i = 0; i < 12; i++) {
-                int next = s.runtime().nextRule();
+                String next = s.ask("nextRule()");
                 s.run("nextRule() = " + next + "; fire() = " + next);
             }
         }
@@ -111,9 +111,9 @@ final class FiringPromiseEdges {
             + "send(5, 0) = -1; fire() = 0; fire() = -1");
         Script s = edges.of(18, number).run("rule ef: = 0; rule e?e=1: = 1; rule e:e=1,e=2 = 2; setPolicy(1) = 0; save() = 0")
             .each(1, 8, "send(4, 0) = -1");
-        long before = s.runtime().digest();
+        String before = s.ask("digest()");
         s.run("fire() = -1; fire() = -1");
-        Script.report("18 fire() = NONE: digest()", String.valueOf(s.runtime().digest()), String.valueOf(before));
+        s.due("digest()", s.ask("digest()"), before);
         s.run("clock() = 8; queueLength(4) = 8; consumed(4) = 0; firings(2) = 0; nextRule() = -1; restore() = 0");
         // A fire that does nothing leaves the rule that was fired last.
         edges.of(18, number).run("rule e: = 0; rule e: = 1; rule f: = 2; setPolicy(1) = 0; send(4, 0) = -1; fire() = 0; fire() = -1;"

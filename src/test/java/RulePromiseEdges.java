@@ -82,6 +82,10 @@ final class RulePromiseEdges {
             + "send(4, 2) = -1; fire() = 0; removeRule(0) = 0; rule a: = 0; patternOf(0) = 1; firings(0) = 0; send(0, 1) = 1;"
             + "fireRule(0) = 1; ticketState(1) = 2; queueLength(5) = 1; queueLength(6) = 1; queueLength(7) = 1");
 
+        edges.of(5, "Adds the rule in the buffer, and clears the buffer").run("text af?a<f:!a=1,g=2 = 15; firstError() = 15;"
+            + "clearBuffer() = 15; rule a: = 0; patternOf(0) = 1; send(0, 5) = 0; fire() = 0; ticketState(0) = 2;"
+            + "waitingChannels() = 0");
+
         edges.of(5, "A saved state is discarded").run("save() = 0; rule a: = 0; restore() = " + STATE + "; save() = 0;"
             + "restore() = 0; text b = 1; restore() = 0; text : = 2; restore() = 0; addRule() = 1; restore() = " + STATE);
 
@@ -113,6 +117,10 @@ final class RulePromiseEdges {
         edges.of(6, "Removes a rule").run("rule a: = 0; rule b: = 1; rule c: = 2; rule d: = 3; removeRule(0) = 3;"
             + "patternOf(0) = 2; patternOf(1) = 4; patternOf(2) = 8; removeRule(2) = 2; patternOf(0) = 2; patternOf(1) = 4;"
             + "patternOf(2) = " + INDEX + "; rule e: = 2; removeRule(1) = 2; patternOf(0) = 2; patternOf(1) = 16");
+        // What is read later must not show in the rules that are left.
+        edges.of(6, "Removes a rule").run("rule e:f=1 = 0; rule e:f=2 = 1; removeRule(0) = 1; rule e:f=3 = 1; text g:h=9 = 5;"
+            + "firstError() = 5; patternOf(0) = 16; send(4, 0) = -1; send(4, 0) = -1; fireRule(0) = 1; messageAt(5, 0) = 2;"
+            + "fireRule(1) = 1; messageAt(5, 1) = 3");
         edges.of(6, "A saved state is discarded").run("rule a: = 0; rule b: = 1; save() = 0; removeRule(2) = " + INDEX
             + "; restore() = 0; removeRule(1) = 1; restore() = " + STATE + "; save() = 0; removeRule(0) = 0; restore() = " + STATE);
         edges.of(6, "Returns the number of rules left").each(0, 7, "rule a: = #").run("removeRule(7) = 7; removeRule(0) = 6;"

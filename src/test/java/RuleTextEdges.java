@@ -26,15 +26,14 @@ final class RuleTextEdges {
 
     /** Behind a text without an error, tries each of the 95 characters: only the given ones may stand there. */
     private static void allowed(Edges edges, String sentence, String text, String characters) {
-        String title = edges.sentence(0, sentence);
-        for (char c = 32; c <= 126; c++) {
-            JoinRuntime x = new JoinRuntime();
+        for (int code = 32; code <= 126; code++) {
+            Script s = edges.of(0, sentence);
             for (char before : text.toCharArray()) {
-                x.append(before);
+                s.ask("append(" + (int) before + ")");
             }
-            x.append(c);
-            int due = text.length() + (characters.indexOf(c) >= 0 ? 1 : 0);
-            Script.report("\"" + title + "\": firstError() of " + text + c, String.valueOf(x.firstError()), String.valueOf(due));
+            s.ask("append(" + code + ")");
+            int due = text.length() + (characters.indexOf(code) >= 0 ? 1 : 0);
+            s.due("firstError() of " + text + (char) code, s.ask("firstError()"), due);
         }
     }
 

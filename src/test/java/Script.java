@@ -46,22 +46,23 @@ final class Script {
     }
 
     private void check(String call, String due) {
-        made++;
-        long before = runtime.digest();
-        String got = answer(call);
-        report(title + ": " + call, got, due);
-        if (got.startsWith("throws ") && runtime.digest() != before) {
-            report(title + ": " + call, "a changed state", "the same state");
+        String before = ask("digest()");
+        String got = ask(call);
+        due(call, got, due);
+        if (got.startsWith("throws ")) {
+            due("digest() behind " + call, ask("digest()"), before);
         }
     }
 
-    private String answer(String call) {
+    /** Makes one call; an exception is an answer too, so that one test cannot end another. */
+    String ask(String call) {
+        made++;
         if (call.startsWith("text ")) {
             return appendAll(call.substring(5));
         }
         if (call.startsWith("rule ")) {
-            appendAll(call.substring(5));
-            return answer("addRule()");
+            String last = appendAll(call.substring(5));
+            return last.startsWith("throws ") ? last : ask("addRule()");
         }
         int open = call.indexOf('(');
         String name = call.substring(0, open);
@@ -91,9 +92,17 @@ final class Script {
     private String appendAll(String text) {
         String last = "";
         for (int i = 0; i < text.length(); i++) {
-            last = String.valueOf(runtime.append(text.charAt(i)));
+            last = ask("append(" + (int) text.charAt(i) + ")");
+            if (last.startsWith("throws ")) {
+                return last;
+            }
         }
         return last;
+    }
+
+    /** Reports what a test has looked up itself, if it is not as due. */
+    void due(String what, Object got, Object want) {
+        report(title + ": " + what, String.valueOf(got), String.valueOf(want));
     }
 
     static void report(String what, String got, String due) {

@@ -73,6 +73,8 @@ final class StatePromiseEdges {
         edges.of(24, "Returns how often a rule has been fired since it was added").run("rule e:e=e = 0; rule f: = 1; firings(0) = 0;"
             + "send(4, 0) = -1; firings(0) = 0; fire() = 0; firings(0) = 1; fireRule(1) = " + STATE + "; firings(1) = 0; run(100) = 100;"
             + "firings(0) = 101; removeRule(0) = 1; firings(0) = 0; rule e:e=e = 1; firings(1) = 0; fireRule(1) = 1; firings(1) = 1");
+        edges.of(24, "Returns how often a rule has been fired since it was added").run("rule e:e=e = 0; rule e:e=e = 1; send(4, 0) = -1;"
+            + "fireRule(1) = 1; fireRule(1) = 2; removeRule(1) = 1; rule e:e=e = 1; firings(1) = 0; firings(0) = 0; fireRule(1) = 1");
         edges.of(24, "Throws `IndexOutOfBoundsException` if the rule does not exist").run("firings(0) = " + INDEX + "; rule e: = 0;"
             + "firings(0) = 0; firings(1) = " + INDEX + "; firings(-1) = " + INDEX + "; firings(" + LEAST_INT + ") = " + INDEX
             + "; firings(" + GREATEST_INT + ") = " + INDEX + "; removeRule(0) = 0; firings(0) = " + INDEX)
@@ -112,6 +114,10 @@ final class StatePromiseEdges {
             + "shareOf(0) = 0.0; shareOf(2) = 0.0; send(4, 0) = -1; shareOf(0) = 0.0; fireRule(0) = 1; shareOf(0) = 1.0;"
             + "shareOf(1) = 0.0; fireRule(1) = 1; shareOf(0) = 0.5; fireRule(1) = 2; shareOf(0) = 0.33333334;"
             + "shareOf(1) = 0.6666667; removeRule(1) = 2; shareOf(0) = 1.0; shareOf(1) = 0.0; removeRule(0) = 1; shareOf(0) = 0.0");
+        // A rule that is gone does not count, be it the last one or all of them.
+        edges.of(27, "Returns the firings of the rule, as a float").run("rule e:e=e = 0; rule e:e=e = 1; send(4, 0) = -1; fireRule(0) = 1;"
+            + "fireRule(1) = 1; shareOf(1) = 0.5; removeRule(1) = 1; shareOf(0) = 1.0; removeRule(0) = 0; rule e:e=e = 0;"
+            + "shareOf(0) = 0.0");
         edges.of(27, "Throws `IndexOutOfBoundsException` if the rule does not exist").run("shareOf(0) = " + INDEX + "; rule e: = 0;"
             + "shareOf(0) = 0.0; shareOf(1) = " + INDEX + "; shareOf(-1) = " + INDEX + "; shareOf(" + LEAST_INT + ") = " + INDEX
             + "; shareOf(" + GREATEST_INT + ") = " + INDEX + "; removeRule(0) = 0; shareOf(0) = " + INDEX)
@@ -125,18 +131,23 @@ final class StatePromiseEdges {
     }
 
     private static void save(Edges edges) {
-        Script s = edges.of(29, "Saves the queues, the tickets, the clock").run("rule a:!a=a = 0; rule e:e=e = 1; rule e:e=e = 2;"
+        String saves = "Saves the queues, the tickets, the clock";
+        Script s = edges.of(29, saves).run("rule a:!a=a = 0; rule e:e=e = 1; rule e:e=e = 2;"
             + "setPolicy(1) = 0; send(0, 5) = 0; send(4, 1) = -1; send(1, 0) = 1; run(2) = 2; save() = 2");
-        long saved = s.runtime().digest();
+        String saved = s.ask("digest()");
         s.run("fire() = 2; send(0, 6) = 2; fire() = 0; send(5, 1) = -1; restore() = 2; clock() = 5; nextRule() = 2; firings(0) = 1;"
             + "firings(2) = 0; queueLength(5) = 0; replyOf(0) = 5; ticketState(1) = 0; ticketState(2) = " + INDEX
             + "; consumed(0) = 1; consumed(4) = 1; meanWait(0) = 3.0; meanWait(4) = 3.0; messageAt(4, 0) = 1; messageAt(1, 0) = 0");
-        Script.report("29 digest() behind restore", String.valueOf(s.runtime().digest()), String.valueOf(saved));
+        s.due("digest() behind restore", s.ask("digest()"), saved);
+        // Each message keeps its own ticket, though other messages stood in its place since.
+        edges.of(29, saves).run("rule a:!a=a = 0; send(0, 5) = 0; send(0, 6) = 1; send(0, 7) = 2; save() = 3; run(9) = 3;"
+            + "send(0, 8) = 3; send(0, 9) = 4; restore() = 3; fire() = 0; replyOf(0) = 5; fire() = 0; replyOf(1) = 6;"
+            + "ticketState(2) = 0; fire() = 0; replyOf(2) = 7; meanWait(0) = 3.0");
         // That no rule has been fired yet is saved too.
-        edges.of(29, "Saves the queues, the tickets, the clock").run("rule e:e=e = 0; rule e:e=e = 1; setPolicy(1) = 0; send(4, 0) = -1;"
+        edges.of(29, saves).run("rule e:e=e = 0; rule e:e=e = 1; setPolicy(1) = 0; send(4, 0) = -1;"
             + "save() = 1; fire() = 0; restore() = 1; nextRule() = 0");
         // The places of all 24 known tickets are used again behind the save.
-        edges.of(29, "Saves the queues, the tickets, the clock").run("rule a:!a=a = 0").each(0, 23, "send(0, #) = #; fire() = 0")
+        edges.of(29, saves).run("rule a:!a=a = 0").each(0, 23, "send(0, #) = #; fire() = 0")
             .run("save() = 0").each(24, 47, "send(0, #) = #; fire() = 0").run("replyOf(23) = " + INDEX + "; restore() = 0")
             .each(0, 23, "replyOf(#) = #").run("ticketState(24) = " + INDEX + "; send(0, 7) = 24; replyOf(0) = " + INDEX);
 
@@ -167,6 +178,19 @@ final class StatePromiseEdges {
                 + "; consumed(" + c + ") = 0; meanWait(" + c + ") = 0.0");
         }
         s.run("ticketState(31) = 0; ticketState(8) = 0; ticketState(7) = " + INDEX + "; run(100) = 16");
+        // A ticket that was answered, one that was abandoned, the rule that was fired last and the waiting times.
+        Script mixed = edges.of(30, everything).run("rule a:!a=a = 0; rule b: = 1; rule e:e=e = 2; rule e:e=e = 3; setPolicy(1) = 0;"
+            + "send(0, 5) = 0; send(1, 6) = 1; send(0, 7) = 2; send(4, 8) = -1; run(3) = 3; nextRule() = 3; save() = 2");
+        String saved = mixed.ask("digest()");
+        mixed.run("fire() = 3; fire() = 0; fire() = 2");
+        for (int t = 3; t < 27; t++) {
+            mixed.run("send(1, 9) = " + t + "; fireRule(1) = " + (t - 1));
+        }
+        mixed.run("send(0, 1) = 27; restore() = 2");
+        mixed.due("digest() behind restore", mixed.ask("digest()"), saved);
+        mixed.run("clock() = 7; nextRule() = 3; replyOf(0) = 5; ticketState(1) = 2; ticketState(2) = 0; ticketState(3) = " + INDEX
+            + "; firings(1) = 1; firings(3) = 0; meanWait(0) = 4.0; meanWait(1) = 4.0; meanWait(4) = 3.0; fire() = 3; fire() = 0;"
+            + "replyOf(2) = 7; meanWait(0) = 5.0");
         // From empty queues to full ones and back.
         full(edges.of(30, everything).run("save() = 0"), 0).run("restore() = 0; waitingChannels() = 0; clock() = 0; ticketState(0) = "
             + INDEX + "; send(3, 0) = 0");
@@ -216,9 +240,9 @@ final class StatePromiseEdges {
         }
     }
 
-    private static void digestIs(String title, Script s, Values values) {
+    private static void digestIs(String state, Script s, Values values) {
         for (int i = 0; i < 2; i++) {
-            Script.report("31 digest of " + title, String.valueOf(s.runtime().digest()), String.valueOf(values.hash()));
+            s.due("digest() of " + state, s.ask("digest()"), values.hash());
         }
     }
 
