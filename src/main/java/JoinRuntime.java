@@ -569,9 +569,14 @@ public final class JoinRuntime {
         int give() {
             int ticket = given;
             given++;
-            states[ticket % TICKET_LIMIT] = TICKET_WAITING;
-            replies[ticket % TICKET_LIMIT] = 0;
+            states[placeOf(ticket)] = TICKET_WAITING;
+            replies[placeOf(ticket)] = 0;
             return ticket;
+        }
+
+        /** Unlike %, floorMod answers an index of the rings for every int. */
+        private static int placeOf(int ticket) {
+            return Math.floorMod(ticket, TICKET_LIMIT);
         }
 
         boolean knows(int ticket) {
@@ -579,18 +584,18 @@ public final class JoinRuntime {
         }
 
         int stateOf(int ticket) {
-            return knows(ticket) ? states[ticket % TICKET_LIMIT] : TICKET_WAITING;
+            return knows(ticket) ? states[placeOf(ticket)] : TICKET_WAITING;
         }
 
         int answerTo(int ticket) {
-            return knows(ticket) ? replies[ticket % TICKET_LIMIT] : 0;
+            return knows(ticket) ? replies[placeOf(ticket)] : 0;
         }
 
         /** A message may wait longer than its ticket is known: then there is nothing to note. */
         void settle(int ticket, int state, int reply) {
             if (knows(ticket)) {
-                states[ticket % TICKET_LIMIT] = state;
-                replies[ticket % TICKET_LIMIT] = reply;
+                states[placeOf(ticket)] = state;
+                replies[placeOf(ticket)] = reply;
             }
         }
 
